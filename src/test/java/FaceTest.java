@@ -100,7 +100,7 @@ public final class FaceTest {
     }
 
     private static void words() throws Exception {
-        String source = Files.readString(Path.of(System.getProperty("skyecho.source")));
+        String source = Files.readString(Path.of(System.getProperty("skyecho.source", "src/main/java/SkyEcho.java")));
         String code = source.replaceAll("(?s)/\\*.*?\\*/", " ").replaceAll("//[^\\n]*", " ");
         for (String word : RULED_OUT) {
             boolean letters = Character.isLetter(word.charAt(0)) || word.charAt(0) == '\\';

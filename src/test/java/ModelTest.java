@@ -7,7 +7,7 @@ import java.util.Random;
 
 /** Long random runs of all calls against a plain model of the document. */
 public final class ModelTest {
-    private static final int RUNS = 100;
+    private static final int RUNS = 200;
     // The document frees what comes after 512 calls; one round of this test may make some hundred of them.
     private static final int CALLS = 400;
 
@@ -305,6 +305,11 @@ public final class ModelTest {
         return kind < odd.length ? odd[kind] : low + random.nextInt(high - low + 1);
     }
 
+    /** Mostly the same one, so that what was found of it before is asked for again after a change. */
+    private int oneBoard() {
+        return random.nextInt(3) == 0 ? some(0, 3) : 1;
+    }
+
     private int tone() {
         return random.nextInt(3) == 0 ? some(0, 23) : Math.min(23, focus + random.nextInt(6));
     }
@@ -319,7 +324,7 @@ public final class ModelTest {
     }
 
     private void call() {
-        int kind = random.nextInt(32);
+        int kind = random.nextInt(34);
         if (kind < 10) {
             tellBoards(kind);
         } else if (kind < 17) {
@@ -332,7 +337,7 @@ public final class ModelTest {
     }
 
     private void tellBoards(int kind) {
-        int b = some(0, 3);
+        int b = oneBoard();
         int t = tone();
         int h = some(0, 31);
         if (kind < 4) {
@@ -346,14 +351,14 @@ public final class ModelTest {
             if (fits) {
                 model.echo[b][t][h] = e;
             }
-        } else if (kind == 7 && random.nextInt(6) == 0) {
+        } else if (kind == 7 && random.nextInt(4) == 0) {
             due("blank", sky.blank(b), in(b, 0, 3));
             if (in(b, 0, 3)) {
                 model.echo[b] = new int[24][32];
             }
         } else if (kind == 8) {
-            int s = some(1, 9);
-            int many = some(1, 32);
+            int s = random.nextBoolean() ? some(1, 9) : Math.min(9, 1 + random.nextInt(topEcho));
+            int many = random.nextInt(3) == 0 ? some(1, 32) : some(3, 16);
             boolean fits = in(s, 1, 9) && in(many, 1, 32);
             due("noise", sky.noise(s, many), fits);
             model.strength = fits ? s : model.strength;
@@ -366,7 +371,7 @@ public final class ModelTest {
     }
 
     private void askTraces(int kind) {
-        int b = some(0, 3);
+        int b = oneBoard();
         int t = tone();
         int what = some(0, 3);
         if (kind == 10) {
@@ -463,7 +468,7 @@ public final class ModelTest {
                 want = d <= n * length ? n : want;
             }
             due("fewest", sky.fewest(d, length), want);
-        } else if (kind == 27 && random.nextInt(3) == 0) {
+        } else if (kind == 27) {
             station(x, y);
         } else if (kind == 28) {
             int s = some(0, 3);
@@ -473,13 +478,13 @@ public final class ModelTest {
             if (fits) {
                 model.stations.get(s)[2] = value;
             }
-        } else if (kind == 29 || kind == 27) {
+        } else if (kind == 29) {
             boolean fits = in(x, 0, 200) && in(y, 0, 200);
             due("map", sky.map(x, y), fits ? model.map(x, y) : -1);
         } else if (kind == 30) {
             int what = some(-1, 14);
             due("count", sky.count(what), count(model, what));
-        } else if (random.nextInt(3) == 0) {
+        } else {
             imageOrAgain();
         }
     }

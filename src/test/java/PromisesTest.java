@@ -267,6 +267,61 @@ public final class PromisesTest {
             sky.echo(0, tone, 0, 9);
         }
         traceIs(sky, "all barred", -1, -1, -1, -1);
+        sky.blank(0);
+        sky.shift(8);
+        sky.echo(0, 3, 6, 9);
+        sky.noise(9, 1);
+        sky.echo(0, 2, 6, 5);
+        sky.echo(0, 11, 6, 5);
+        traceIs(sky, "worth at a barred tone, but no end there", 7, 2, 4, 0);
+        sky.echo(0, 4, 6, 9);
+        sky.echo(0, 5, 6, 9);
+        traceIs(sky, "an end there would be worth 8", 5, 2, 6, 0);
+    }
+
+    private static void earlierEnds() {
+        SkyEcho sky = new SkyEcho();
+        sky.shift(8);
+        sky.echo(0, 3, 2, 4);
+        sky.echo(0, 4, 2, 1);
+        sky.echo(0, 3, 20, 4);
+        traceIs(sky, "a tone that adds nothing is left away", 3, 3, 3, 0);
+        sky.blank(0);
+        // Low: 5 + 3 + 2 at three tones; high: 5 + 4 at two of them. Both are worth 7.
+        sky.echo(0, 3, 2, 5);
+        sky.echo(0, 4, 2, 3);
+        sky.echo(0, 5, 2, 2);
+        sky.echo(0, 3, 20, 5);
+        sky.echo(0, 4, 20, 4);
+        traceIs(sky, "the earlier end before the lower height", 7, 3, 4, 0);
+        due("the height of the earlier end", sky.height(0, 3), 20);
+        sky.blank(0);
+        // From height 10 either down one and on (4 - 1, then 3) or up one and no further (6 - 1).
+        sky.echo(0, 0, 10, 5);
+        sky.echo(0, 1, 9, 4);
+        sky.echo(0, 2, 9, 3);
+        sky.echo(0, 1, 11, 6);
+        traceIs(sky, "the earlier end on the way", 8, 0, 1, 0);
+        due("the way to the earlier end", sky.height(0, 1), 11);
+    }
+
+    private static void foundAnew() {
+        SkyEcho sky = new SkyEcho();
+        sky.echo(0, 9, 9, 9);
+        traceIs(sky, "an echo", 15, 7, 9, 0);
+        sky.board(0, 9, 1, 0x08000000);
+        traceIs(sky, "after board", 13, 7, 9, 0);
+        sky.shift(1);
+        traceIs(sky, "after shift", 14, 8, 9, 0);
+        sky.noise(8, 1);
+        traceIs(sky, "after noise", -1, -1, -1, -1);
+        sky.noise(9, 1);
+        traceIs(sky, "after noise again", 14, 8, 9, 0);
+        sky.blank(0);
+        traceIs(sky, "after blank", -1, -1, -1, -1);
+        sky.echo(1, 5, 5, 5);
+        due("another board", sky.trace(1, 0), 8);
+        due("and the first one", sky.trace(0, 0), -1);
     }
 
     private static void heights() {
@@ -648,6 +703,13 @@ public final class PromisesTest {
         due("back to a new one", other.again(1), true);
         due("none barred", other.count(10), 0);
         due("noise as at first", other.count(1), 3);
+        other.station(10, 20, 5);
+        other.image(0);
+        other.again(1);
+        other.station(30, 40, 6);
+        other.again(0);
+        due("a station where it stood", other.station(10, 20, 7), -1);
+        due("and no other one", other.station(30, 40, 7), 1);
     }
 
     public static void main(String[] args) {
@@ -660,6 +722,8 @@ public final class PromisesTest {
         tells();
         traces();
         barredTraces();
+        earlierEnds();
+        foundAnew();
         heights();
         undonePlaces();
         values();

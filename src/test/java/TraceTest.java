@@ -4,7 +4,7 @@ import java.util.Random;
 /** THE TRACE against a search through all traces of boards whose echoes are at the first tones alone. */
 public final class TraceTest {
     private static final int SMALL = 5;
-    private static final int ROUNDS = 120;
+    private static final int ROUNDS = 600;
 
     private static int wrong = 0;
 
@@ -76,24 +76,34 @@ public final class TraceTest {
     private static void round(int round, Random random) {
         SkyEcho sky = new SkyEcho();
         Search search = new Search();
-        search.shift = 1 + random.nextInt(3);
-        search.strength = 1 + random.nextInt(4);
-        search.many = 2 + random.nextInt(5);
+        search.shift = 1 + random.nextInt(4);
+        search.strength = 2 + random.nextInt(4);
+        search.many = 1 + random.nextInt(4);
         sky.shift(search.shift);
         sky.noise(search.strength, search.many);
         int echoes = 1 + random.nextInt(14);
-        int spread = 2 + random.nextInt(10);
+        int spread = 1 + random.nextInt(8);
         int base = random.nextInt(32 - spread);
         int top = 2 + random.nextInt(4);
         for (int i = 0; i < echoes; i++) {
             int tone = random.nextInt(SMALL);
             int height = base + random.nextInt(spread + 1);
             int echo = random.nextInt(top + 1);
-            search.echo[tone][height] = echo;
-            sky.echo(2, tone, height, echo);
+            tell(sky, search, tone, height, echo);
+        }
+        for (int tone = 0; tone < SMALL; tone++) {
+            boolean bar = random.nextInt(4) == 0;
+            for (int i = 0; bar && i < search.many; i++) {
+                tell(sky, search, tone, (base + 16 + i) % 32, search.strength);
+            }
         }
         search.all();
         check(round, sky, search);
+    }
+
+    private static void tell(SkyEcho sky, Search search, int tone, int height, int echo) {
+        search.echo[tone][height] = echo;
+        sky.echo(2, tone, height, echo);
     }
 
     private static void check(int round, SkyEcho sky, Search search) {

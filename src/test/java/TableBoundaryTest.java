@@ -1,3 +1,6 @@
+import java.util.Arrays;
+import java.util.Random;
+
 /** The boundary cases of THE TABLE: term 2, promises 12 to 16. */
 public final class TableBoundaryTest {
     private static final Due DUE = new Due();
@@ -116,6 +119,32 @@ public final class TableBoundaryTest {
         middleIs("one of each", withValues(300, 1, 500, 2), -1, 500);
         middleIs("one of all", withValues(300, 1, 500, 2, 400, 0), 300, 500);
         middleIs("two or less, one or more", withValues(1, 2, 2, 2, 3, 1), -1, 2);
+    }
+
+    /** Tells a VALUE that fits to the true one: just that, or that or more, or that or less. */
+    private static void tellOfTrueValue(SkyEcho sky, int day, int trueValue, Random random) {
+        int letter = random.nextInt(3);
+        int low = letter == 2 ? trueValue : 0;
+        int high = letter == 1 ? trueValue : 999;
+        int told = letter == 0 ? trueValue : low + random.nextInt(high - low + 1);
+        sky.value(0, day, told, letter);
+    }
+
+    private static void middleLiesBetween() {
+        DUE.sentence("Term 2: (The middle one lies between them, whatever the true values are.)");
+        Random random = new Random(16);
+        for (int round = 0; round < 500; round++) {
+            SkyEcho sky = new SkyEcho();
+            int[] trueValues = new int[1 + random.nextInt(LAST_DAY + 1)];
+            for (int day = 0; day < trueValues.length; day++) {
+                trueValues[day] = random.nextInt(1000);
+                tellOfTrueValue(sky, day, trueValues[day], random);
+            }
+            Arrays.sort(trueValues);
+            int middle = trueValues[(trueValues.length - 1) / 2];
+            DUE.is("not below the low one", sky.middle(0, 0) <= middle, true);
+            DUE.is("not above the high one", sky.middle(0, 1) >= middle, true);
+        }
     }
 
     private static void fullHour() {
@@ -303,6 +332,7 @@ public final class TableBoundaryTest {
         onlyThoseNotMissing();
         lowMiddle();
         highMiddle();
+        middleLiesBetween();
         fullHour();
         valueRefusals();
         scaleOfTheTrace();

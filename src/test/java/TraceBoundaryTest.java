@@ -90,6 +90,14 @@ public final class TraceBoundaryTest {
         DUE.sentence("Term 1: HEIGHT 31 of a TONE and HEIGHT 0 of the next one are far from each other");
         traceIs(along(2, LAST_HEIGHT, 0), "31 and 0", 8, 2, 2, 0);
         traceIs(along(2, 0, LAST_HEIGHT), "0 and 31", 8, 2, 2, 0);
+        SkyEcho sky = along(2, LAST_HEIGHT, 0);
+        for (int tone = 2; tone <= 4; tone++) {
+            sky.echo(0, tone, 0, 9);
+            sky.echo(0, tone, LAST_HEIGHT, 9);
+            int tones = Math.max(tone, 3) - 1;
+            traceIs(sky, "both, and asked again after a change", 8 * tones, 2, tones + 1, 0);
+            DUE.is("its height", sky.height(0, 2), 0);
+        }
     }
 
     private static void endsNotBarred() {
@@ -310,6 +318,32 @@ public final class TraceBoundaryTest {
         noTrace(sky, "a blank board");
     }
 
+    private static void asTheBoardIsNow() {
+        DUE.sentence("Promise 8: Of THE TRACE of a BOARD (as it is after each change)");
+        SkyEcho sky = along(3, 5);
+        traceIs(sky, "after echo", 8, 3, 3, 0);
+        sky.board(0, 4, 0, 0x00000900);
+        traceIs(sky, "after board", 16, 3, 4, 0);
+        sky.shift(1);
+        traceIs(sky, "after shift", 9 + 18 + 9 - 3, 2, 4, 0);
+        sky.noise(9, 1);
+        noTrace(sky, "after noise");
+        sky.noise(9, 2);
+        traceIs(sky, "after another noise", 33, 2, 4, 0);
+        DUE.is("noise 0", sky.noise(0, 1), false);
+        DUE.is("shift 0", sky.shift(0), false);
+        DUE.is("echo 10", sky.echo(0, 4, 5, 10), false);
+        traceIs(sky, "after refused calls", 33, 2, 4, 0);
+        sky.echo(1, 4, 5, 9);
+        DUE.is("another board", sky.trace(1, 0), 16);
+        traceIs(sky, "after another board was told and asked", 33, 2, 4, 0);
+        sky.blank(1);
+        traceIs(sky, "after blank of another board", 33, 2, 4, 0);
+        DUE.is("another board", sky.trace(1, 0), -1);
+        sky.blank(0);
+        noTrace(sky, "after blank");
+    }
+
     private static void heightRefusals() {
         DUE.sentence("Promise 9: NONE: it is not there");
         SkyEcho sky = along(3, 5, 6, 7);
@@ -447,6 +481,7 @@ public final class TraceBoundaryTest {
         letterAtTheLastTone();
         letterBeforeABarredTone();
         traceRefusals();
+        asTheBoardIsNow();
         heightRefusals();
         undoneRefusals();
         placeRefusals();

@@ -46,6 +46,21 @@ public final class FarBoundaryTest {
         }
     }
 
+    private static void justAtMostOfManyTriangles() {
+        DUE.sentence("Term 4: .. is at most (just as much is, for whole triangles)");
+        int[][] triangles = {{8, 6, 10}, {10, 24, 26}, {24, 10, 26}, {16, 30, 34}, {48, 14, 50}, {42, 40, 58}};
+        for (int[] triangle : triangles) {
+            SkyEcho sky = new SkyEcho();
+            int half = triangle[1] / 2;
+            for (int times = 1; times * half <= TOP_LAYER; times += 3) {
+                int f = triangle[2] / 2 * times;
+                DUE.is("just " + f, sky.hops(triangle[0], half, half * times, 1), f);
+                DUE.is("just " + f + " by five", sky.hops(5 * triangle[0], half, half * times, 5), f);
+                DUE.is("not quite " + f, sky.hops(triangle[0] - 1, half, half * times, 1) < f, true);
+            }
+        }
+    }
+
     private static void farthestAndNearest() {
         DUE.sentence("Term 4: D, 1 .. 20000; H, 1 .. 1000; c, 1 .. 1000; n hops, 1 .. 5");
         SkyEcho sky = new SkyEcho();
@@ -260,6 +275,7 @@ public final class FarBoundaryTest {
     public static void main(String[] args) {
         greatestWholeNumber();
         justAtMost();
+        justAtMostOfManyTriangles();
         farthestAndNearest();
         hopsRefusals();
         notLonger();

@@ -90,12 +90,16 @@ public final class TraceBoundaryTest {
         DUE.sentence("Term 1: HEIGHT 31 of a TONE and HEIGHT 0 of the next one are far from each other");
         traceIs(along(2, LAST_HEIGHT, 0), "31 and 0", 8, 2, 2, 0);
         traceIs(along(2, 0, LAST_HEIGHT), "0 and 31", 8, 2, 2, 0);
-        SkyEcho sky = along(2, LAST_HEIGHT, 0);
-        for (int tone = 2; tone <= 4; tone++) {
-            sky.echo(0, tone, 0, 9);
-            sky.echo(0, tone, LAST_HEIGHT, 9);
-            int tones = Math.max(tone, 3) - 1;
-            traceIs(sky, "both, and asked again after a change", 8 * tones, 2, tones + 1, 0);
+        SkyEcho sky = along(2, LAST_HEIGHT, LAST_HEIGHT, LAST_HEIGHT, LAST_HEIGHT);
+        for (int tone = 1; tone <= 6; tone++) {
+            sky.echo(0, tone, 0, 3);
+            traceIs(sky, "asked again after a change below", 32, 2, 5, 0);
+            DUE.is("its height", sky.height(0, 2), LAST_HEIGHT);
+        }
+        sky = along(2, 0, 0, 0, 0);
+        for (int tone = 1; tone <= 6; tone++) {
+            sky.echo(0, tone, LAST_HEIGHT, 3);
+            traceIs(sky, "asked again after a change above", 32, 2, 5, 0);
             DUE.is("its height", sky.height(0, 2), 0);
         }
     }
@@ -113,6 +117,35 @@ public final class TraceBoundaryTest {
         traceIs(sky, "the last two are barred", 8, 3, 3, 1);
         sky.echo(0, 3, 20, 9);
         noTrace(sky, "all four are barred");
+    }
+
+    private static void barredEndsWithTheShifted() {
+        DUE.sentence("Term 1: both ends are not BARRED (though the ECHO SHIFT TONES on would be worth it)");
+        SkyEcho sky = new SkyEcho();
+        sky.shift(1);
+        sky.noise(9, 1);
+        sky.echo(0, 5, 10, 8);
+        traceIs(sky, "nothing is barred", 14, 4, 5, 0);
+        sky.echo(0, 4, 30, 9);
+        traceIs(sky, "no begin at a barred tone, but before it", 13, 3, 5, 0);
+        sky.echo(0, 3, 30, 9);
+        sky.echo(0, 2, 30, 9);
+        sky.echo(0, 1, 30, 9);
+        sky.echo(0, 0, 30, 9);
+        traceIs(sky, "no begin before it, either", 7, 5, 5, 0);
+        SkyEcho other = plainSky();
+        other.noise(9, 1);
+        other.echo(0, 3, 6, 8);
+        other.echo(0, 12, 6, 6);
+        traceIs(other, "nothing is barred there", 12, 3, 4, 0);
+        other.echo(0, 4, 30, 9);
+        traceIs(other, "no end at a barred tone, but after it", 11, 3, 5, 0);
+        for (int tone = 5; tone < 12; tone++) {
+            other.echo(0, tone, 30, 9);
+        }
+        traceIs(other, "no end before the next one that is not barred", 10, 3, 12, 0);
+        other.echo(0, 12, 30, 9);
+        traceIs(other, "nothing from there any more", 7, 3, 3, 1);
     }
 
     private static void throughBarredTones() {
@@ -207,6 +240,13 @@ public final class TraceBoundaryTest {
         traceIs(sky, "a tone more that adds nothing", 5, 1, 2, 0);
         sky.echo(0, 0, 20, 1);
         traceIs(sky, "two tones more", 5, 0, 2, 0);
+        sky = plainSky();
+        sky.echo(0, 0, 20, 9);
+        sky.echo(0, 5, 20, 9);
+        sky.echo(0, 2, 3, 9);
+        sky.echo(0, 3, 3, 5);
+        traceIs(sky, "another one ends sooner", 12, 0, 5, 0);
+        heightsAre(sky, "another one ends sooner", 0, 20, 20, 20, 20, 20, 20);
     }
 
     private static void leastLastTone() {
@@ -221,6 +261,14 @@ public final class TraceBoundaryTest {
         DUE.is("the higher one", sky.height(0, 2), 20);
         sky.echo(0, 3, 4, 3);
         traceIs(sky, "a longer one that is greater", 6, 2, 3, 0);
+        // From HEIGHT 10 down one and on (4 - 2, then 3 - 1) or up one and no further (6 - 2).
+        sky = plainSky();
+        sky.echo(0, 0, 10, 5);
+        sky.echo(0, 1, 9, 4);
+        sky.echo(0, 2, 9, 3);
+        sky.echo(0, 1, 11, 6);
+        traceIs(sky, "a longer way that is lower", 8, 0, 1, 0);
+        heightsAre(sky, "a longer way that is lower", 0, 10, 11);
     }
 
     private static void leastHeights() {
@@ -468,6 +516,7 @@ public final class TraceBoundaryTest {
         threeAtMost();
         noWayRound();
         endsNotBarred();
+        barredEndsWithTheShifted();
         throughBarredTones();
         worthWithoutTheShifted();
         sameHeight();

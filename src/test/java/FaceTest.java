@@ -26,6 +26,14 @@ public final class FaceTest {
         "Random", "Thread", "currentTimeMillis", "nanoTime", "->", "::", "\\w+Exact", "hashCode"
     };
 
+    /** What rule 4 leaves of the static functions that a class like this could want. */
+    private static final Set<String> LIBRARY = Set.of("System.arraycopy", "Arrays.copyOf", "Arrays.copyOfRange",
+            "Arrays.fill", "List.of");
+    private static final Set<String> IMPORTS = Set.of("java.util.ArrayList", "java.util.Arrays",
+            "java.util.Iterator", "java.util.List");
+    private static final int TOP_CLASSES = 12;
+    private static final int TOP_LINES = 60;
+
     private static int wrong = 0;
 
     private static void due(boolean holds, String what) {
@@ -109,9 +117,54 @@ public final class FaceTest {
             Matcher matcher = Pattern.compile(letters ? "\\b" + word + "\\b" : word).matcher(code);
             due(!matcher.find(), "ruled out: " + word);
         }
+        library(code);
+        due(longestMethod(bare) <= TOP_LINES, "a method of " + longestMethod(bare) + " lines");
         for (char c : source.toCharArray()) {
             due(c < 128, "a character outside ASCII: " + (int) c);
         }
+    }
+
+    /** A static function of the library is allowed by its name, or as one of Integer, Long or Math over int and long. */
+    private static void library(String code) {
+        Matcher imported = Pattern.compile("\\bimport\\s+([\\w.*\\s]+?)\\s*;").matcher(code);
+        while (imported.find()) {
+            due(IMPORTS.contains(imported.group(1)), "ruled out: import " + imported.group(1));
+        }
+        Set<String> own = new TreeSet<>();
+        Matcher declared = Pattern.compile("\\b(?:class|enum|record|interface)\\s+(\\w+)").matcher(code);
+        while (declared.find()) {
+            own.add(declared.group(1));
+        }
+        due(own.size() <= TOP_CLASSES, "more than twelve classes: " + own);
+        Matcher called = Pattern.compile("\\b([A-Z]\\w*)\\s*\\.\\s*(\\w+)\\s*\\(").matcher(code);
+        while (called.find()) {
+            boolean numbers = Set.of("Integer", "Long", "Math").contains(called.group(1));
+            boolean fine = numbers || own.contains(called.group(1))
+                    || LIBRARY.contains(called.group(1) + "." + called.group(2));
+            due(fine, "ruled out: " + called.group());
+        }
+        due(!Pattern.compile("\\bjava\\s*\\.").matcher(code.replaceAll("\\bimport[^;]*;", "")).find(),
+                "a library's name written out");
+    }
+
+    /** Lines from a method's head to its closing brace, as the braces stand at the depth of the text. */
+    private static int longestMethod(String bare) {
+        int longest = 0;
+        int head = -1;
+        String indent = "";
+        String[] lines = bare.split("\n", -1);
+        Pattern start = Pattern.compile("( {4}| {8})\\w[\\w<>\\[\\] ]+\\([^;]*");
+        for (int i = 0; i < lines.length; i++) {
+            Matcher matcher = start.matcher(lines[i]);
+            if (head < 0 && matcher.matches()) {
+                head = i;
+                indent = matcher.group(1);
+            } else if (head >= 0 && lines[i].equals(indent + "}")) {
+                longest = Math.max(longest, i - head + 1);
+                head = -1;
+            }
+        }
+        return longest;
     }
 
     public static void main(String[] args) throws Exception {

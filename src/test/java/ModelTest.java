@@ -10,6 +10,7 @@ public final class ModelTest {
     private static final int RUNS = 200;
     // The document frees what comes after 512 calls; one round of this test may make some hundred of them.
     private static final int CALLS = 400;
+    private static final int FULL_BOARDS = 400;
 
     private static int wrong = 0;
 
@@ -515,12 +516,39 @@ public final class ModelTest {
         }
     }
 
+    /** Echoes at all tones along a way, or all over the board, since the runs above tell few tones at once. */
+    private void fullBoard() {
+        int b = random.nextInt(4);
+        int spread = random.nextBoolean() ? 31 : random.nextInt(6);
+        int height = random.nextInt(32);
+        for (int t = 0; t < 24; t++) {
+            height = Math.max(0, Math.min(31, height + random.nextInt(7) - 3));
+            for (int part = 0; part < 4; part++) {
+                int eight = 0;
+                for (int h = 8 * part; h < 8 * part + 8; h++) {
+                    boolean silent = Math.abs(h - height) > spread || random.nextInt(4) == 0;
+                    eight = eight << 4 | (silent ? 0 : random.nextInt(topEcho + 1));
+                }
+                due("board", sky.board(b, t, part, eight), board(model, b, t, part, eight));
+            }
+        }
+        model.strength = 1 + random.nextInt(9);
+        model.many = 1 + random.nextInt(32);
+        model.shift = 1 + random.nextInt(8);
+        due("noise", sky.noise(model.strength, model.many), true);
+        due("shift", sky.shift(model.shift), true);
+        wholeTrace(b, model.trace(b));
+    }
+
     public static void main(String[] args) {
         for (int run = 0; run < RUNS; run++) {
             ModelTest test = new ModelTest(run, new Random(run));
             for (int i = 0; test.calls < CALLS && i < 2 * CALLS && wrong < 50; i++) {
                 test.call();
             }
+        }
+        for (int run = RUNS; run < RUNS + FULL_BOARDS && wrong < 50; run++) {
+            new ModelTest(run, new Random(run)).fullBoard();
         }
         System.out.println(wrong == 0 ? "all runs are as the model" : wrong + " answers are not as due");
         if (wrong != 0) {
